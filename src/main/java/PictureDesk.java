@@ -276,7 +276,7 @@ public final class PictureDesk {
     }
 
     private static boolean isCell(int cell) {
-        return isWithin(cell, 0, CELLS - 1);
+        return cell >= 0 && cell < CELLS;
     }
 
     private static boolean isDay(int day) {
@@ -332,14 +332,14 @@ public final class PictureDesk {
         private long low, high;
 
         boolean has(int number) {
-            if (!isWithin(number, 0, 127)) return false;
+            if (number < 0 || number > 127) return false;
             long half = number < 64 ? low : high;
             return (half >>> (number & 63) & 1) == 1;
         }
 
         boolean put(int number, boolean is) {
             boolean before = has(number);
-            if (before == is || !isWithin(number, 0, 127)) return before;
+            if (before == is || number < 0 || number > 127) return before;
             long bit = 1L << (number & 63);
             if (number < 64) low ^= bit;
             else high ^= bit;
@@ -653,9 +653,9 @@ public final class PictureDesk {
             isSeen = false;
             for (int i = 0; i < album.size(); i++) {
                 Picture each = album.find(i);
-                if (each == null || each.day() > day || !each.covers(cell)) continue;
+                int look = each == null || each.day() > day ? NONE : each.look(cell);
+                if (look == NONE) continue;
                 isCovered = true;
-                int look = each.look(cell);
                 if (look < FIRST_KIND) continue;
                 if (each.counting(cell) == thing.number()) isSeen = true;
                 else comeNearer(NEAREST + look - FIRST_KIND, distance);

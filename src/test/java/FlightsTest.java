@@ -61,6 +61,11 @@ final class FlightsTest {
         PictureDesk desk = new PictureDesk();
         desk.thing(5, 0, 1, 1, 1, 0, 0, 0);
         DUE.is("nothing wanted", desk.best(800, 0), 0);
+        PictureDesk other = new PictureDesk();
+        other.thing(5, 0, 1, 1, 1, 0, 0, 0);
+        other.set(0, 10, 1);
+        other.flight(0, 5, 5, 1, 1);
+        DUE.is("the first flight alone", other.best(1, 0), 1);
         desk.set(0, 10, 1);
         desk.flight(0, 5, 5, 5, 100);
         desk.flight(1, 5, 5, 5, 60);

@@ -6,6 +6,7 @@ final class LinesTest {
     public static void main(String[] args) {
         meet();
         linesOfNoCell();
+        linesToTheEnds();
         chance();
         did();
         decoy();
@@ -47,6 +48,32 @@ final class LinesTest {
         DUE.is("straight off the land", desk.meet(0, 0), -6);
         DUE.is("straight off the land, how many", desk.meet(0, 1), 0);
         DUE.is("straight off the land, chance", desk.chance(0, 0), LOST - 3);
+    }
+
+    private static void linesToTheEnds() {
+        PictureDesk desk = new PictureDesk();
+        desk.thing(0, 7, 1, 1, 1, 0, 0, 99);
+        desk.thing(11, 0, 1, 1, 1, 0, 0, 99);
+        desk.set(0, 8, 2);
+        desk.set(1, 8, 4);
+        DUE.is("the last corner", desk.meet(0, 0), 95);
+        DUE.is("the last corner, how many", desk.meet(0, 1), 2);
+        desk.set(0, 8, 1);
+        desk.set(1, 8, 6);
+        DUE.is("a corner's row", desk.meet(0, 0), 7);
+        desk.set(0, 8, 0);
+        DUE.is("the first corner", desk.meet(0, 0), 0);
+        desk.thing(1, 3, 1, 1, 1, 0, 0, 99);
+        desk.thing(9, 3, 1, 1, 1, 0, 0, 99);
+        desk.set(0, 8, 8);
+        desk.set(1, 8, 8);
+        desk.set(2, 8, 2);
+        desk.set(3, 8, 6);
+        DUE.is("towards one another", desk.meet(0, 0), 38);
+        DUE.is("both can", desk.chance(0, 1), 64);
+        desk.set(0, 8, 4);
+        DUE.is("the first thing alone can't", desk.chance(0, 1), 1);
+        DUE.is("the first thing alone can't, upper", desk.chance(0, 0), 0);
     }
 
     private static void chance() {

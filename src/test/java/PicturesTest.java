@@ -12,6 +12,7 @@ final class PicturesTest {
         count();
         span();
         changed();
+        changedAtTheEnds();
         DUE.end();
     }
 
@@ -31,6 +32,8 @@ final class PicturesTest {
             }
         }
         DUE.is("told(1)", desk.told(1), 10);
+        DUE.is("the last one", desk.shows(9, 3), 0);
+        DUE.is("none behind it", desk.shows(10, 3), -1);
         DUE.is("picture 10", desk.picture(0, 11, 0, 0, 0), -4);
         DUE.is("picture 10, outside", desk.picture(0, 12, 0, 0, 0), -2);
     }
@@ -149,6 +152,8 @@ final class PicturesTest {
         DUE.is("slope 0, least", desk.span(0, 0, 0), 1);
         DUE.is("slope 0, greatest", desk.span(0, 0, 1), 20);
         DUE.is("slope 0, a shadow of 1", desk.span(0, 1, 1), -6);
+        desk.picture(0, 0, 0, 0, 5);
+        DUE.is("slope 5, 0 cells", desk.span(3, 0, 1), 1);
         DUE.is("slope 3, 0 cells", desk.span(1, 0, 1), 3);
         DUE.is("slope 3, 1 cell, least", desk.span(1, 1, 0), 4);
         DUE.is("slope 3, 1 cell, greatest", desk.span(1, 1, 1), 6);
@@ -161,7 +166,29 @@ final class PicturesTest {
         DUE.is("-1 cells", desk.span(2, -1, 1), -2);
         DUE.is("end 2", desk.span(2, 0, 2), -2);
         DUE.is("end -1", desk.span(2, 0, -1), -2);
-        DUE.is("no picture", desk.span(3, 12, 2), -1);
+        DUE.is("no picture", desk.span(4, 12, 2), -1);
+    }
+
+    private static void changedAtTheEnds() {
+        PictureDesk desk = new PictureDesk();
+        desk.thing(0, 0, 1, 1, 1, 0, 10, 10);
+        desk.thing(11, 7, 1, 1, 1, 0, 10, 10);
+        desk.picture(0, 11, 10, 0, 0);
+        desk.picture(0, 11, 11, 0, 0);
+        DUE.is("both corners", desk.changed(0, 1, 0), 2);
+        DUE.is("kind 0 is no ground", desk.changed(0, 1, 1), 0);
+        DUE.is("kind 0 is no ground, the other way", desk.changed(1, 0, 1), 0);
+        DUE.is("the first corner", desk.changed(0, 1, 2), 0);
+        desk.cloud(0, 0, true);
+        DUE.is("the last corner", desk.changed(0, 1, 2), 95);
+        desk.cloud(0, 0, false);
+        desk.set(0, 9, 1);
+        desk.set(1, 9, 1);
+        DUE.is("nets leave the ground", desk.changed(0, 1, 0), 0);
+        desk.picture(0, 0, 10, 3, 20);
+        desk.thing(1, 0, 1, 1, 1, 0, 10, 10);
+        desk.picture(0, 0, 11, 3, 20);
+        DUE.is("a shadow on the first cell", desk.changed(2, 3, 1), 1);
     }
 
     private static void changed() {
