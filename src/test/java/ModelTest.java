@@ -6,7 +6,6 @@ final class ModelTest {
     private static final int[] ODD = {-1, Integer.MIN_VALUE, Integer.MAX_VALUE, 1000, -6, 96, 100, 12};
     private static final String[] TESTS = {"s>0", "s=4", "k=1", "k<3", "h>9", "h<15", "n0<4", "n1>6", "n2=99", "n3<9",
         "n4>20", "n5=3", "s<10", "s", "n6=1", "h=123", "x=1"};
-    private static final Due DUE = new Due();
     private final Random lot;
     private final PictureDesk desk = new PictureDesk();
     private final PlainDesk plain = new PlainDesk();
@@ -16,10 +15,17 @@ final class ModelTest {
     }
 
     public static void main(String[] args) {
-        for (int run = 0; run < RUNS && DUE.wrong() == 0; run++) new ModelTest(run).run(run);
-        for (int run = 0; run < 50 && DUE.wrong() == 0; run++) new ModelTest(run).runOdd(run);
-        everyLean();
-        DUE.end();
+        Due.run(ModelTest.class);
+    }
+
+    @Says("An object is used for at most 512 calls after it has been made")
+    static void terms_randomCallsAsInThePlainModel() {
+        for (int run = 0; run < RUNS && Due.allRight(); run++) new ModelTest(run).run(run);
+    }
+
+    @Says("Calls that are refused answer, the first of these that fits")
+    static void terms_oddNumbersAsInThePlainModel() {
+        for (int run = 0; run < 50 && Due.allRight(); run++) new ModelTest(run).runOdd(run);
     }
 
     private int any(int least, int greatest) {
@@ -143,17 +149,7 @@ final class ModelTest {
         same(run, "flight", desk.flight(flight, from, to, weather, risk), plain.flight(flight, from, to, weather, risk));
     }
 
-    private static void everyLean() {
-        PictureDesk desk = new PictureDesk();
-        PlainDesk plain = new PlainDesk();
-        for (int n = 1; n <= 20; n += 3) for (int m = 1; m <= 20; m++) {
-            for (int a = 0; a <= n; a++) for (int b = 0; b <= m; b++) for (int part = 0; part < 2; part++) {
-                DUE.is("lean", desk.lean(a, n, b, m, part), plain.lean(a, n, b, m, part));
-            }
-        }
-    }
-
     private static void same(int run, String call, long got, long want) {
-        if (got != want) DUE.is("run " + run + ": " + call, got, want);
+        if (got != want) Due.is("run " + run + ": " + call, got, want);
     }
 }
