@@ -653,7 +653,8 @@ public final class PictureDesk {
             isSeen = false;
             for (int i = 0; i < album.size(); i++) {
                 Picture each = album.find(i);
-                int look = each == null || each.day() > day ? NONE : each.look(cell);
+                if (each == null || each.day() > day) continue;
+                int look = each.look(cell);
                 if (look == NONE) continue;
                 isCovered = true;
                 if (look < FIRST_KIND) continue;

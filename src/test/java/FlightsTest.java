@@ -251,6 +251,17 @@ final class FlightsTest {
     }
 
     @Says("of the most WORTH, of several the least RISK, then the least as bits")
+    static void promise27_theLeastThatCanBeWon() {
+        PictureDesk desk = wanted(5);
+        for (int i = 0; i < 7; i++) desk.flight(i, 5, 5, 9, 0);
+        desk.flight(7, 5, 5, 1, 100);
+        worths(desk, 127, 9999999, 10000000);
+        worths(desk, 255, 99999991, 100000000);
+        bests(desk, 99, 127, 0);
+        bests(desk, 100, 255, 100);
+    }
+
+    @Says("of the most WORTH, of several the least RISK, then the least as bits")
     static void promise27_ofSeveralTheLeastRisk() {
         PictureDesk desk = wanted(5);
         desk.flight(0, 5, 5, 10, 100);

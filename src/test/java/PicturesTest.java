@@ -215,6 +215,19 @@ final class PicturesTest {
     }
 
     @Says("(a NETTED one shows nothing of itself, but its shadow falls)")
+    static void promise08_netsComeAndGoInEveryCell() {
+        for (int cell = 0; cell < 96; cell++) {
+            PictureDesk desk = new PictureDesk();
+            desk.thing(cell % 12, cell / 12, 1, 1, 1, 0, 0, 99);
+            take(desk, 0, 11, 0, 0, 0);
+            for (int net = 0; net < 4; net++) {
+                desk.set(0, 9, net % 2);
+                Due.is("cell " + cell, desk.shows(0, cell), net % 2 == 1 ? 0 : 10);
+            }
+        }
+    }
+
+    @Says("(a NETTED one shows nothing of itself, but its shadow falls)")
     static void promise08_aNetTakesShadows() {
         PictureDesk desk = new PictureDesk();
         desk.thing(4, 4, 2, 1, 5, 3, 0, 99);
@@ -542,6 +555,18 @@ final class PicturesTest {
         desk.set(1, 9, 1);
         changes(desk, 0, 1, 0, 0, NONE);
         changes(desk, 0, 2, 2, 2, 42);
+    }
+
+    @Says("BY THE HOUR: those of them that both show as ground or shadow")
+    static void promise11_byTheHourInEveryCell() {
+        for (int cell = 0; cell < 96; cell++) {
+            PictureDesk desk = new PictureDesk();
+            boolean isFirstColumn = cell % 12 == 0;
+            desk.thing(isFirstColumn ? 1 : cell % 12 - 1, cell / 12, 1, 1, 1, 0, 0, 99);
+            take(desk, 0, 11, 0, EAST, 0);
+            take(desk, 0, 11, 0, isFirstColumn ? WEST : EAST, 10);
+            changes(desk, 0, 1, 1, 1, cell);
+        }
     }
 
     @Says("the first CELL (2; NONE)")
