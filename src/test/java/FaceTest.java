@@ -33,16 +33,6 @@ final class FaceTest {
         Due.holds("methods " + got, got.equals(new TreeSet<>(Arrays.asList(METHODS))));
     }
 
-    /** Of the class's own rules: a private method bears no public one's name. */
-    @Says("public final class PictureDesk {")
-    static void terms_privateNames() {
-        TreeSet<String> names = new TreeSet<>();
-        for (String method : METHODS) names.add(method.substring(method.indexOf(' ') + 1, method.indexOf('(')));
-        for (Method method : PictureDesk.class.getDeclaredMethods()) {
-            if (Modifier.isPrivate(method.getModifiers())) Due.holds("name " + method, !names.contains(method.getName()));
-        }
-    }
-
     @Says("public static final int NONE = -6, UNKNOWN = -1, OUTSIDE = -2, STATE = -3, FULL = -4, NO = -5;")
     static void terms_constants() throws ReflectiveOperationException {
         String[] names = {"NONE", "UNKNOWN", "OUTSIDE", "STATE", "FULL", "NO", "LOST"};

@@ -143,6 +143,43 @@ final class FlightsTest {
         worths(desk, 0xff, 1, 1);
     }
 
+    /** Columns from and to, and weather, of 8 flights. */
+    private static final int[][] PLANS = {{0, 3, 7}, {2, 9, 4}, {5, 5, 10}, {8, 11, 0}, {0, 11, 1}, {3, 6, 9}, {11, 11, 5}, {1, 7, 3}};
+
+    private static long weightOf(int outcome, int set) {
+        long weight = 1;
+        for (int i = 0; i < 8; i++) {
+            if ((set >> i & 1) == 0) weight *= 10;
+            else weight *= (outcome >> i & 1) == 1 ? PLANS[i][2] : 10 - PLANS[i][2];
+        }
+        return weight;
+    }
+
+    private static boolean isSettled(int column, int outcome) {
+        for (int i = 0; i < 8; i++) {
+            boolean comesOff = (outcome >> i & 1) == 1;
+            if (comesOff && column >= PLANS[i][0] && column <= PLANS[i][1]) return true;
+        }
+        return false;
+    }
+
+    @Says("A set of FLIGHTS SETTLES a WANTED one, if one comes off that covers the column of its first CELL.")
+    static void promise26_everyOutcomeCounted() {
+        int[] columns = {0, 2, 4, 5, 7, 9, 10, 11};
+        for (int set = 0; set < 256; set++) {
+            long settled = 0;
+            for (int outcome = 0; outcome < 256; outcome++) {
+                // Outcomes in which a flight beside the set comes off are none of this set's.
+                if ((outcome & ~set) != 0) continue;
+                for (int column : columns) if (isSettled(column, outcome)) settled += weightOf(outcome, set);
+            }
+            PictureDesk desk = wanted(columns);
+            for (int i = 0; i < 8; i++) desk.flight(i, PLANS[i][0], PLANS[i][1], PLANS[i][2], 0);
+            long divisor = BigInteger.valueOf(settled).gcd(BigInteger.valueOf(100000000)).longValueExact();
+            worths(desk, set, settled / divisor, 100000000 / divisor);
+        }
+    }
+
     @Says("A set of FLIGHTS SETTLES a WANTED one, if one comes off that covers the column of its first CELL.")
     static void promise26_theColumnOfItsFirstCell() {
         for (int from = 0; from < 12; from++) for (int to = from; to < 12; to++) {
@@ -306,8 +343,7 @@ final class FlightsTest {
 
     @Says("BEST for a PURSE (0 to 800)")
     static void promise27_OUTSIDE_purse() {
-        PictureDesk desk = wanted(5);
-        Due.range(n -> desk.best(n[0], n[1]), Due.of(0, 0), 0, 0, 800, OUTSIDE);
+        Due.range(n -> wanted(5).best(n[0], n[1]), Due.of(0, 0), 0, 0, 800, OUTSIDE);
     }
 
     // ---- promise 28
@@ -333,9 +369,9 @@ final class FlightsTest {
 
     @Says("the odds that, all who saw it being dealt by lot among all, as many or more are among the told ones")
     static void promise28_everyNumberOfReaders() {
-        for (int n = 1; n <= 20; n++) for (int m = 1; m <= 20; m++) {
+        for (int n = 1; n <= 20; n++) for (int m = 1; m <= 20; m++) for (int a = 0; a <= n; a++) {
             PictureDesk desk = new PictureDesk();
-            for (int a = 0; a <= n; a++) for (int b = 0; b <= m; b++) leans(desk, a, n, b, m);
+            for (int b = 0; b <= m; b++) leans(desk, a, n, b, m);
         }
     }
 

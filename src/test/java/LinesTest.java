@@ -205,6 +205,35 @@ final class LinesTest {
         meets(desk, 0, 52, 12);
     }
 
+    /** Three things: x, y, wide and long each, and how they face. */
+    private static void countsEveryLot(int[][] things, int lot) {
+        PictureDesk desk = new PictureDesk();
+        for (int i = 0; i < 3; i++) {
+            desk.thing(things[i][0], things[i][1], things[i][2], things[i][3], 1, 0, 0, 99);
+            desk.set(i, 8, lot >> 3 * i & 7);
+        }
+        int cell = desk.meet(0, 0);
+        if (cell == NONE) return;
+        long through = 0;
+        for (int other = 0; other < 512; other++) {
+            boolean all = true;
+            for (int i = 0; i < 3; i++) {
+                int[] n = things[i];
+                all &= lineOf(n[0], n[1], n[2], n[3], other >> 3 * i & 7).contains(cell);
+            }
+            if (all) through++;
+        }
+        long divisor = BigInteger.valueOf(through).gcd(BigInteger.valueOf(512)).longValueExact();
+        chances(desk, 0, through / divisor, 512 / divisor);
+    }
+
+    @Says("each facing by lot one of 8 ways, have lines through that CELL")
+    static void promise21_everyLotCounted() {
+        int[][][] lands = {{{2, 2, 1, 1}, {6, 2, 2, 2}, {4, 6, 1, 1}}, {{0, 0, 4, 4}, {7, 3, 1, 1}, {3, 7, 1, 1}},
+            {{5, 3, 1, 1}, {5, 3, 3, 1}, {5, 3, 1, 4}}};
+        for (int[][] things : lands) for (int lot = 0; lot < 512; lot++) countsEveryLot(things, lot);
+    }
+
     @Says("each facing by lot one of 8 ways, have lines through that CELL")
     static void promise21_whereItFacesDoesNotMatter() {
         PictureDesk desk = new PictureDesk();

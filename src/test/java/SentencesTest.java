@@ -8,9 +8,11 @@ import java.util.List;
 import java.util.regex.Matcher;
 import java.util.regex.Pattern;
 
-/** Every test is named after a promise and quotes the document; every promise and every refusal of it has a test. */
+/** Every test is named after what it quotes, a promise or a rule; every promise and every refusal of it has a test. */
 final class SentencesTest {
-    private static final Path DOCUMENT = Path.of("../shared/DOC.md"), TESTS = Path.of("src/test/java");
+    private static final Path DOCUMENT = Path.of("../shared/DOC.md"), RULES = Path.of("../shared/LANGUAGE.md");
+    private static final Path TESTS = Path.of("src/test/java");
+    private static final Pattern NAME = Pattern.compile("(?:promise(\\d\\d)|rule(\\d\\d)|terms)_\\w+");
     private static final Pattern EDGE = Pattern.compile("\\b(NONE|UNKNOWN|OUTSIDE|STATE|FULL|NO)\\b");
     private static final int PROMISES = 29;
 
@@ -24,8 +26,8 @@ final class SentencesTest {
 
     /** The class can be tested without its document, but not whether the tests are all that it asks for. */
     private static boolean hasDocument() {
-        boolean has = Files.exists(DOCUMENT);
-        if (!has) System.out.println("no " + DOCUMENT + ": the tests' names are not looked at");
+        boolean has = Files.exists(DOCUMENT) && Files.exists(RULES);
+        if (!has) System.out.println("no " + DOCUMENT + ", " + RULES + ": the tests' names are not looked at");
         return has;
     }
 
@@ -45,6 +47,19 @@ final class SentencesTest {
         return whole.substring(from, to);
     }
 
+    private static String rule(int number) throws IOException {
+        String whole = Files.readString(RULES) + "\n";
+        int from = whole.indexOf("\n" + number + ". ");
+        int to = whole.indexOf("\n" + (number + 1) + ". ", from);
+        return from < 0 ? "" : fold(whole.substring(from, to < 0 ? whole.length() : to));
+    }
+
+    private static boolean standsThere(Matcher name, String words) throws IOException {
+        if (name.group(2) != null) return rule(Integer.parseInt(name.group(2))).contains(words);
+        if (name.group(1) != null && promise(Integer.parseInt(name.group(1))).contains(words)) return true;
+        return terms().contains(words);
+    }
+
     private static List<Method> allTests() throws IOException, ClassNotFoundException {
         List<Method> tests = new ArrayList<>();
         try (DirectoryStream<Path> files = Files.newDirectoryStream(TESTS, "*Test.java")) {
@@ -61,13 +76,9 @@ final class SentencesTest {
         if (!hasDocument()) return;
         for (Method test : allTests()) {
             String words = fold(test.getAnnotation(Says.class).value());
-            Matcher name = Pattern.compile("(?:promise(\\d\\d)|terms)_\\w+").matcher(test.getName());
-            if (!name.matches()) {
-                Due.holds("named after a promise: " + test.getName(), false);
-                continue;
-            }
-            boolean isOwn = name.group(1) != null && promise(Integer.parseInt(name.group(1))).contains(words);
-            Due.holds(test.getName() + " quotes its promise or the terms: " + words, isOwn || terms().contains(words));
+            Matcher name = NAME.matcher(test.getName());
+            if (name.matches()) Due.holds(test.getName() + " quotes what it names: " + words, standsThere(name, words));
+            else Due.holds("named after a promise or a rule: " + test.getName(), false);
         }
     }
 
